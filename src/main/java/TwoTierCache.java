@@ -286,7 +286,8 @@ public final class TwoTierCache {
         /** Brings the first page that is not marked to the head. */
         private void spareMarked(PageRow row) {
             // Once round the row no page is marked any more.
-            for (int i = 0; i < row.size() && isMarked(row.at(0)); i++) {
+            int once = row.size();
+            for (int i = 0; i < once && isMarked(row.at(0)); i++) {
                 int spared = row.takeHead();
                 markedPages &= ~bit(spared);
                 row.addTail(spared);

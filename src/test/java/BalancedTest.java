@@ -4,6 +4,9 @@ public final class BalancedTest {
         Due due = new Due();
         runsOfTwo(due);
         runsOfFour(due);
+        runsOfSix(due);
+        putsOutOfRowOneWhenRowZeroIsEmpty(due);
+        keepsAllWhileAPageComesBack(due);
         runsOfOne(due);
         goalIsOfBalancedTiersOnly(due);
         due.end();
@@ -92,6 +95,70 @@ public final class BalancedTest {
         // Three more would be 5: the goal stays within the capacity.
         Due.read(cache, 11);
         rows(due, cache, 4, pages(12), pages(11, 10, 9), pages(), pages(5, 1, 6, 4));
+    }
+
+    private static void runsOfSix(Due due) {
+        TwoTierCache cache = new TwoTierCache();
+        cache.begin(3, 6, 0, 16);
+        Due.read(cache, 1, 2, 3, 4, 5, 6, 1, 2, 3, 7, 8, 9);
+        rows(due, cache, 0, pages(9, 8, 7), pages(3, 2, 1), pages(6, 5, 4), pages());
+        Due.read(cache, 10);
+        rows(due, cache, 0, pages(10, 9, 8), pages(3, 2, 1), pages(7, 6, 5), pages());
+        Due.read(cache, 5);
+        rows(due, cache, 1, pages(10, 9), pages(5, 3, 2, 1), pages(8, 7, 6), pages());
+        Due.read(cache, 6);
+        rows(due, cache, 2, pages(10, 9), pages(6, 5, 3, 2), pages(8, 7), pages(1));
+        // Two in row 2 for one in row 3: the goal shrinks by 2.
+        Due.read(cache, 1);
+        rows(due, cache, 0, pages(10), pages(1, 6, 5, 3, 2), pages(9, 8, 7), pages());
+        Due.read(cache, 7);
+        rows(due, cache, 1, pages(10), pages(7, 1, 6, 5, 3), pages(9, 8), pages(2));
+        Due.read(cache, 11, 12);
+        rows(due, cache, 1, pages(12, 11), pages(7, 1, 6, 5), pages(10, 9, 8), pages(3, 2));
+        Due.read(cache, 8);
+        rows(due, cache, 2, pages(12, 11), pages(8, 7, 1, 6), pages(10, 9), pages(5, 3, 2));
+        // Three in row 3 for two in row 2: that is 1, rounded down.
+        Due.read(cache, 9);
+        rows(due, cache, 3, pages(12, 11), pages(9, 8, 7, 1), pages(10), pages(6, 5, 3, 2));
+    }
+
+    private static void putsOutOfRowOneWhenRowZeroIsEmpty(Due due) {
+        TwoTierCache cache = new TwoTierCache();
+        cache.begin(3, 2, 0, 16);
+        Due.read(cache, 1, 2, 3, 3, 4, 5, 4, 3, 5);
+        rows(due, cache, 1, pages(), pages(5, 3), pages(), pages(4));
+        // Row 0 has just the goal then, 0, and the page is in row 3, but there is no tail.
+        Due.read(cache, 4);
+        rows(due, cache, 0, pages(), pages(4, 5), pages(), pages(3));
+        due.residents(cache, 0, 4, 5);
+    }
+
+    private static void keepsAllWhileAPageComesBack(Due due) {
+        TwoTierCache cache = new TwoTierCache();
+        cache.begin(3, 16, 0, 16);
+        readFrom(cache, 1, 16);
+        readFrom(cache, 1, 15);
+        Due.read(cache, 17, 16, 18, 19, 17);
+        due.is("goal(0)", cache.goal(0), 3);
+        Due.read(cache, 20, 21, 22, 18);
+        due.is("goal(0)", cache.goal(0), 8);
+        readFrom(cache, 23, 28);
+        Due.read(cache, 19);
+        readFrom(cache, 29, 32);
+        rows(due, cache, 16, pages(32, 31, 30, 29, 28, 27, 26, 25, 24, 23, 22, 21, 20),
+                pages(19, 18, 17), pages(),
+                pages(16, 15, 14, 13, 12, 11, 10, 9, 8, 7, 6, 5, 4, 3, 2, 1));
+        // Page 17 comes to row 3 while page 1 is still in it.
+        Due.read(cache, 1);
+        rows(due, cache, 15, pages(32, 31, 30, 29, 28, 27, 26, 25, 24, 23, 22, 21, 20),
+                pages(1, 19, 18), pages(),
+                pages(17, 16, 15, 14, 13, 12, 11, 10, 9, 8, 7, 6, 5, 4, 3, 2));
+    }
+
+    private static void readFrom(TwoTierCache cache, int first, int last) {
+        for (int page = first; page <= last; page++) {
+            cache.access(page, false);
+        }
     }
 
     private static void runsOfOne(Due due) {
