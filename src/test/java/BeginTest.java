@@ -14,9 +14,9 @@ public final class BeginTest {
     }
 
     private static void takesEveryPolicyAndCapacity(Due due) {
-        TwoTierCache cache = new TwoTierCache();
         for (int policy = 0; policy < 4; policy++) {
             for (int capacity = 1; capacity <= 16; capacity++) {
+                TwoTierCache cache = new TwoTierCache();
                 due.is("begin upper", cache.begin(policy, capacity, 0, 1), true);
                 holdsAtMost(due, cache, 0, capacity);
                 due.is("begin lower", cache.begin(0, 1, policy, capacity), true);
@@ -29,17 +29,17 @@ public final class BeginTest {
     private static void holdsAtMost(Due due, TwoTierCache cache, int tier, int capacity) {
         for (int page = 0; page < 40; page++) {
             cache.access(page, false);
-            int resident = 0;
-            for (int each = 0; each < 64; each++) {
-                resident += cache.resident(tier, each) ? 1 : 0;
-            }
-            due.is("resident pages", resident, Math.min(page + 1, capacity));
         }
+        int resident = 0;
+        for (int page = 0; page < 64; page++) {
+            resident += cache.resident(tier, page) ? 1 : 0;
+        }
+        due.is("resident pages", resident, capacity);
     }
 
     private static void emptiesAll(Due due) {
-        TwoTierCache cache = new TwoTierCache();
         for (int policy = 0; policy < 4; policy++) {
+            TwoTierCache cache = new TwoTierCache();
             cache.begin(policy, 3, policy, 5);
             for (int i = 0; i < 40; i++) {
                 cache.access(i * i % 11, i % 3 == 0);
@@ -103,7 +103,8 @@ public final class BeginTest {
             due.is("begin", cache.begin(0, capacity, 0, 1), false);
             due.is("begin", cache.begin(0, 1, 0, capacity), false);
         }
-        // Pages 1, 2 and 3 went down as victims and were hits in tier 1, as page 2 was at its return.
+        // Pages 1, 2 and 3 went down as victims and were hits in tier 1, and so was page 2 when it
+        // came back.
         due.row(cache, 0, 0, 4);
         due.row(cache, 0, 1, 2);
         due.row(cache, 0, 3, 3);

@@ -80,6 +80,36 @@ final class Model {
         return writes - before;
     }
 
+    boolean resident(int t, int page) {
+        return isTier(t) && tiers[t].residents().contains(page);
+    }
+
+    boolean dirty(int t, int page) {
+        return isTier(t) && tiers[t].dirty.contains(page);
+    }
+
+    boolean marked(int t, int page) {
+        return isTier(t) && tiers[t].marked.contains(page);
+    }
+
+    int row(int t, int row, int i) {
+        boolean isRow = isTier(t) && 0 <= row && row <= 3;
+        boolean isPlace = isRow && 0 <= i && i < tiers[t].size(row);
+        return isPlace ? tiers[t].rows.get(row).get(i) : NONE;
+    }
+
+    int goal(int t) {
+        return isTier(t) && tiers[t].policy == 3 ? tiers[t].goal : NONE;
+    }
+
+    int count(int t, int what) {
+        return isTier(t) && 0 <= what && what <= 2 ? tiers[t].counts[what] : NONE;
+    }
+
+    private static boolean isTier(int t) {
+        return t == 0 || t == 1;
+    }
+
     /** A tier; in its rows the first element is the head. */
     static final class ModelTier {
         final int policy;

@@ -2,9 +2,13 @@ import java.util.List;
 
 /** All promises, in long runs of calls that are the same each time, against Model. */
 public final class ModelTest {
+    // The document promises nothing of later calls.
     private static final int CALLS = 512;
+    // What the looks at the end of a run take at most.
+    private static final int LOOKS = 200;
+    private static final int RUNS = 1000;
     private static final int[] ODD =
-            {-1, -2, 4, 16, 17, 63, 64, 65, 128, Integer.MIN_VALUE, Integer.MAX_VALUE};
+            {-1, -2, 3, 4, 16, 17, 63, 64, 65, 128, Integer.MIN_VALUE, Integer.MAX_VALUE};
 
     private final Due due;
     private final TwoTierCache cache = new TwoTierCache();
@@ -19,8 +23,8 @@ public final class ModelTest {
     public static void main(String[] args) {
         Due due = new Due();
         for (int policies = 0; policies < 16; policies++) {
-            for (int run = 0; run < 120; run++) {
-                new ModelTest(due, policies * 1000 + run).run(policies / 4, policies % 4, run);
+            for (int run = 0; run < RUNS; run++) {
+                new ModelTest(due, policies * RUNS + run).run(policies / 4, policies % 4, run);
             }
         }
         due.end();
@@ -38,16 +42,20 @@ public final class ModelTest {
     private void run(int policy0, int policy1, int run) {
         int capacity0 = 1 + next(run % 2 == 0 ? 16 : 5);
         int capacity1 = 1 + next(run % 3 == 0 ? 16 : 9);
-        // Few pages more than places, or many: ghosts come back often only with few.
+        // Few pages more than places, or many: pages gone out come back often only with few.
         int pages = Math.min(64, 2 + capacity0 + next(run % 5 == 0 ? 60 : 14));
         if (run > 0) {
             begin(policy0, capacity0, policy1, capacity1);
         }
-        for (int call = 1; call < CALLS; call++) {
+        // Runs of many lengths, as the looks at their ends see the most.
+        int last = run % 4 == 0 ? CALLS - LOOKS : 2 + next(CALLS - LOOKS - 1);
+        for (int call = 2; call <= last; call++) {
             step(pages);
-            if (call % 8 == 0 || call > CALLS - 16) {
-                lookAtAll();
-            }
+        }
+        if (run % 3 == 0) {
+            lookAtPages(run % 2);
+        } else {
+            lookAtRows();
         }
     }
 
@@ -56,59 +64,63 @@ public final class ModelTest {
                 model.begin(policy0, capacity0, policy1, capacity1));
     }
 
+    /** One call. */
     private void step(int pages) {
-        int kind = next(200);
+        int kind = next(400);
         if (kind == 0) {
             begin(oddOr(4), oddOr(17), oddOr(4), oddOr(17));
-        } else if (kind < 5) {
+        } else if (kind < 6) {
             due.is("flush()", cache.flush(), model.flush());
-        } else if (kind < 10) {
-            lookAtOdd();
+        } else if (kind < 80) {
+            look(next(8), oddOr(2), pages);
         } else {
             // Two draws, the lesser of them: some pages come often, some seldom.
-            int page = kind < 13 ? ODD[next(ODD.length)] : Math.min(next(pages), next(pages));
+            int page = kind < 86 ? ODD[next(ODD.length)] : Math.min(next(pages), next(pages));
             boolean writing = next(3) == 0;
             due.is("access(" + page + ")", cache.access(page, writing),
                     model.access(page, writing));
         }
     }
 
-    private void lookAtOdd() {
-        int tier = ODD[next(2) == 0 ? 0 : 2 + next(ODD.length - 2)];
-        int any = next(64);
-        int odd = ODD[next(2) == 0 ? next(2) : 6 + next(ODD.length - 6)];
-        due.is("resident of no tier", cache.resident(tier, any), false);
-        due.is("dirty of no tier", cache.dirty(tier, any), false);
-        due.is("marked of no tier", cache.marked(tier, any), false);
-        due.is("row of no tier", cache.row(tier, next(4), 0), Model.NONE);
-        due.is("goal of no tier", cache.goal(tier), Model.NONE);
-        due.is("count of no tier", cache.count(tier, next(3)), Model.NONE);
-        for (int t = 0; t < 2; t++) {
-            due.is("resident of no page", cache.resident(t, odd), false);
-            due.is("dirty of no page", cache.dirty(t, odd), false);
-            due.is("marked of no page", cache.marked(t, odd), false);
-            due.is("no row", cache.row(t, odd, 0), Model.NONE);
-            due.is("no place", cache.row(t, next(4), odd), Model.NONE);
-            due.is("no count", cache.count(t, odd), Model.NONE);
+    /** One call that looks, often with arguments that there are not. */
+    private void look(int kind, int t, int pages) {
+        int page = oddOr(pages);
+        int row = oddOr(4);
+        int i = oddOr(6);
+        int what = oddOr(3);
+        switch (kind) {
+            case 0 -> due.is("resident", cache.resident(t, page), model.resident(t, page));
+            case 1 -> due.is("dirty", cache.dirty(t, page), model.dirty(t, page));
+            case 2 -> due.is("marked", cache.marked(t, page), model.marked(t, page));
+            case 3 -> due.is("row", cache.row(t, row, i), model.row(t, row, i));
+            case 4 -> due.is("goal", cache.goal(t), model.goal(t));
+            case 5 -> due.is("count", cache.count(t, what), model.count(t, what));
+            case 6 -> due.is("reads()", cache.reads(), model.reads);
+            default -> due.is("writes()", cache.writes(), model.writes);
         }
     }
 
-    private void lookAtAll() {
+    private void lookAtRows() {
         for (int t = 0; t < 2; t++) {
-            Model.ModelTier tier = model.tiers[t];
             for (int row = 0; row < 4; row++) {
-                List<Integer> pages = tier.rows.get(row);
+                List<Integer> pages = model.tiers[t].rows.get(row);
                 due.row(cache, t, row, pages.stream().mapToInt(page -> page).toArray());
             }
-            for (int page = 0; page < 64; page++) {
-                due.is("resident", cache.resident(t, page), tier.residents().contains(page));
-                due.is("dirty", cache.dirty(t, page), tier.dirty.contains(page));
-                due.is("marked", cache.marked(t, page), tier.marked.contains(page));
+            for (int what = 0; what < 3; what++) {
+                due.is("count", cache.count(t, what), model.count(t, what));
             }
-            due.counts(cache, t, tier.counts[0], tier.counts[1], tier.counts[2]);
-            due.is("goal", cache.goal(t), tier.policy == 3 ? tier.goal : Model.NONE);
+            due.is("goal", cache.goal(t), model.goal(t));
         }
         due.is("reads()", cache.reads(), model.reads);
         due.is("writes()", cache.writes(), model.writes);
+        due.is("flush()", cache.flush(), model.flush());
+    }
+
+    private void lookAtPages(int t) {
+        for (int page = 0; page < 64; page++) {
+            due.is("resident", cache.resident(t, page), model.resident(t, page));
+            due.is("dirty", cache.dirty(t, page), model.dirty(t, page));
+            due.is("marked", cache.marked(t, page), model.marked(t, page));
+        }
     }
 }

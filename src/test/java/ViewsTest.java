@@ -108,11 +108,13 @@ public final class ViewsTest {
         TwoTierCache cache = new TwoTierCache();
         cache.begin(1, 2, 0, 2);
         Due.write(cache, 1, 2);
+        due.residents(cache, 0, 1, 2);
+        due.dirtyPages(cache, 0, 1, 2);
+        due.markedPages(cache, 0);
         for (int i = 0; i < 3; i++) {
-            due.residents(cache, 0, 1, 2);
-            due.residents(cache, 1, 1, 2);
-            due.dirtyPages(cache, 0, 1, 2);
-            due.markedPages(cache, 0);
+            due.is("resident(0, 1)", cache.resident(0, 1), true);
+            due.is("dirty(0, 1)", cache.dirty(0, 1), true);
+            due.is("marked(0, 1)", cache.marked(0, 1), false);
             due.row(cache, 0, 0, 1, 2);
             due.row(cache, 1, 0, 2, 1);
             due.counts(cache, 0, 0, 2, 0);
