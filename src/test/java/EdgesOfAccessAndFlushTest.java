@@ -21,6 +21,7 @@ public final class EdgesOfAccessAndFlushTest {
         flushWithOnePageDirtyInBoth(due);
         flushTakesTheLeastFirst(due);
         flushTakesPageZeroFirstAndPage63Last(due);
+        flushWritesPageZeroAndPage63OfTierOne(due);
         flushCountsVictimsOnTheWay(due);
         flushCountsAllVictimsOnTheWay(due);
         flushCountsAVictimThatComesBack(due);
@@ -200,6 +201,17 @@ public final class EdgesOfAccessAndFlushTest {
         due.rows("flush()", cache, 1, "63 31 | - | - | -");
         due.dirtyPages(cache, 0);
         due.dirtyPages(cache, 1);
+    }
+
+    /** "then every dirty page of tier 1, the least first": from page 0 to page 63. */
+    private static void flushWritesPageZeroAndPage63OfTierOne(Due due) {
+        TwoTierCache cache = recent(1, 4);
+        Due.write(cache, 0, 63, 1);
+        due.dirtyPages(cache, 1, 0, 63);
+        due.is("flush()", cache.flush(), 3);
+        due.dirtyPages(cache, 0);
+        due.dirtyPages(cache, 1);
+        due.residents(cache, 1, 0, 1, 63);
     }
 
     /** "(victims of tier 1 on the way, too ..)": one page that was dirty there before. */

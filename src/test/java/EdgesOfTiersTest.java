@@ -14,6 +14,7 @@ public final class EdgesOfTiersTest {
         rowsAreEmptyAtFirst(due);
         onlyPageIsHeadAndTail(due);
         goneOutPageIsAMiss(due);
+        call512IsAnswered(due);
         due.end();
     }
 
@@ -167,5 +168,19 @@ public final class EdgesOfTiersTest {
         due.rows("gone out of row 1", balanced, 0, "3 | 2 | - | 1");
         due.is("access(1)", balanced.access(1, false), 1);
         due.counts(balanced, 0, 1, 5, 0);
+    }
+
+    /** "An object is used for at most 512 calls after it has been made": the last of them. */
+    private static void call512IsAnswered(Due due) {
+        TwoTierCache cache = new TwoTierCache();
+        cache.begin(0, 1, 0, 1);
+        for (int i = 0; i < 508; i++) {
+            cache.access(i % 64, true);
+        }
+        // Each page misses both tiers, and its victim misses tier 1; what goes down is written
+        // one page later.
+        due.is("access, call 510", cache.access(508 % 64, true), 2);
+        due.is("count(1, 1), call 511", cache.count(1, 1), 509 + 508);
+        due.is("writes(), call 512", cache.writes(), 507);
     }
 }
