@@ -288,9 +288,8 @@ public final class TwoTierCache {
             // Once round the row no page is marked any more.
             int once = row.size();
             for (int i = 0; i < once && isMarked(row.at(0)); i++) {
-                int spared = row.takeHead();
-                markedPages &= ~bit(spared);
-                row.addTail(spared);
+                markedPages &= ~bit(row.at(0));
+                row.turn();
             }
         }
 
@@ -429,6 +428,16 @@ public final class TwoTierCache {
             }
             pages[size] = page;
             size++;
+        }
+
+        /** The head comes to the tail. */
+        void turn() {
+            if (size == 0) {
+                return;
+            }
+            int head = pages[0];
+            System.arraycopy(pages, 1, pages, 0, size - 1);
+            pages[size - 1] = head;
         }
 
         int takeHead() {
