@@ -11,6 +11,8 @@ public final class EdgesOfTiersTest {
         firstPagesFindRoom(due);
         fullTierLetsOnePageGo(due);
         hitLetsNoPageGo(due);
+        noVictimNothingGoesDown(due);
+        hitInMainRowHasNoVictim(due);
         rowsAreEmptyAtFirst(due);
         onlyPageIsHeadAndTail(due);
         goneOutPageIsAMiss(due);
@@ -124,6 +126,34 @@ public final class EdgesOfTiersTest {
                 due.is("resident of " + c + " by " + policy, residentsBelow(cache, 0, 64), c);
             }
         }
+    }
+
+    /** "if there is a victim and it was dirty, it .. goes down": none while there is room. */
+    private static void noVictimNothingGoesDown(Due due) {
+        for (int tier = 0; tier < 2; tier++) {
+            for (int policy = 0; policy < 4; policy++) {
+                TwoTierCache cache = tierOf(tier, policy, 4);
+                Due.write(cache, 0, 63);
+                // Tier 0 of one page lets 0 and 63 go, so that they are dirty in tier 1.
+                Due.read(cache, 1, 0, 63, 2);
+                due.is("resident by " + policy, residentsBelow(cache, tier, 64), 4);
+                due.dirtyPages(cache, tier, 0, 63);
+                due.is("count(" + tier + ", 2)", cache.count(tier, 2), 0);
+                due.is("writes()", cache.writes(), 0);
+            }
+        }
+    }
+
+    /** "if there is a victim and it was dirty, it .. goes down": none at a hit in row 2. */
+    private static void hitInMainRowHasNoVictim(Due due) {
+        TwoTierCache cache = tierOf(0, 2, 2);
+        Due.read(cache, 1, 2, 3, 1);
+        Due.write(cache, 0);
+        due.rows("page 1 in the main row", cache, 0, "0 | 3 | 1 | -");
+        due.is("access(1)", cache.access(1, false), 0);
+        due.dirtyPages(cache, 0, 0);
+        due.dirtyPages(cache, 1);
+        due.counts(cache, 0, 1, 5, 0);
     }
 
     /** "It keeps rows of pages, all empty at first." */
